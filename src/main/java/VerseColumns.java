@@ -330,6 +330,9 @@ public final class VerseColumns {
         if (!isWithin(what, 0, 8)) {
             return BAD_VALUE;
         }
+        if (what >= 5) {
+            layout.arrange(state);
+        }
         switch (what) {
             case 0:
                 return state.map.kindOf(group);
@@ -341,8 +344,14 @@ public final class VerseColumns {
                 return firstVerseOrNone(group, RIGHT);
             case 4:
                 return state.map.sizeOf(group, RIGHT);
+            case 5:
+                return layout.heightOf(group);
+            case 6:
+                return layout.pageOf(group);
+            case 7:
+                return layout.lineOf(group);
             default:
-                return placeOfGroup(group, what);
+                return layout.notesOf(group);
         }
     }
 
@@ -380,20 +389,6 @@ public final class VerseColumns {
 
     private int firstVerseOrNone(int group, int book) {
         return state.map.sizeOf(group, book) == 0 ? NONE : state.map.firstOf(group, book);
-    }
-
-    private int placeOfGroup(int group, int what) {
-        layout.arrange(state);
-        switch (what) {
-            case 5:
-                return layout.heightOf(group);
-            case 6:
-                return layout.pageOf(group);
-            case 7:
-                return layout.lineOf(group);
-            default:
-                return layout.notesOf(group);
-        }
     }
 
     private static boolean isBook(int book) {
@@ -795,7 +790,7 @@ public final class VerseColumns {
         }
 
         void failAt(int index) {
-            if (!hasFault()) {
+            if (fault == NO_FAULT) {
                 fault = index;
             }
         }
