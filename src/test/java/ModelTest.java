@@ -656,7 +656,6 @@ public final class ModelTest {
                 return -4;
             }
             act();
-            // Found again by their places: the state was copied, not replaced.
             state.groups.set(group, first);
             state.groups.add(group + 1, second);
             return state.groups.size();
@@ -794,11 +793,8 @@ public final class ModelTest {
         private int[] reference(int book) {
             List<Integer> numbers = new ArrayList<>();
             List<Integer> starts = new ArrayList<>();
-            String wanted = ":";
             int index = 0;
             int first = -1;
-            int fault;
-            String form = "";
             while (true) {
                 // A number.
                 int start = index;
@@ -815,7 +811,7 @@ public final class ModelTest {
                 numbers.add(Integer.parseInt(text.substring(start, index)));
                 starts.add(start);
                 boolean colon = index < text.length() && text.charAt(index) == ':';
-                fault = look(book, numbers, colon);
+                int fault = look(book, numbers, colon);
                 if (fault >= 0) {
                     return new int[] {starts.get(fault)};
                 }
@@ -823,16 +819,6 @@ public final class ModelTest {
                     first = find(book, numbers.get(0), numbers.get(1));
                 }
                 boolean over = index == text.length();
-                // What may stand behind it.
-                if (numbers.size() == 1) {
-                    wanted = ":";
-                } else if (numbers.size() == 2) {
-                    wanted = "-";
-                } else if (numbers.size() == 3) {
-                    wanted = colon ? ":" : "";
-                } else {
-                    wanted = "";
-                }
                 if (over) {
                     if (numbers.size() == 1) {
                         return new int[] {index};
@@ -846,8 +832,8 @@ public final class ModelTest {
                     }
                     return new int[] {first, last};
                 }
-                form = "" + text.charAt(index);
-                if (!form.equals(wanted)) {
+                // The fourth number is the last one, and nothing may stand behind it.
+                if (text.charAt(index) != ":-: ".charAt(numbers.size() - 1) || numbers.size() == 4) {
                     return new int[] {index};
                 }
                 index++;
