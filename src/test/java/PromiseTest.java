@@ -2,19 +2,7 @@ import java.util.ArrayList;
 import java.util.List;
 
 /** For each promise of the document: ordinary inputs, the edges it names, and wrong inputs. */
-public final class PromiseTest {
-    private static final int UNKNOWN = VerseColumns.UNKNOWN;
-    private static final int BAD_VALUE = VerseColumns.BAD_VALUE;
-    private static final int FULL = VerseColumns.FULL;
-    private static final int NOT_POSSIBLE = VerseColumns.NOT_POSSIBLE;
-    private static final int NONE = VerseColumns.NONE;
-    private static final int MIN = Integer.MIN_VALUE;
-    private static final int MAX = Integer.MAX_VALUE;
-
-    private static int wrong = 0;
-    private static int asked = 0;
-    private static String promise = "";
-
+public final class PromiseTest extends Checks {
     public static void main(String[] args) {
         constants();
         newObject();
@@ -50,126 +38,30 @@ public final class PromiseTest {
         group();
         count();
         errorsChangeNothing();
-        System.out.println(asked + " answers looked at, " + wrong + " wrong");
-        if (wrong != 0) {
-            System.exit(1);
-        }
+        finish();
     }
 
-    private static void due(String call, long got, long want) {
-        asked++;
-        if (got != want) {
-            wrong++;
-            System.out.println(promise + ": " + call + " answered " + got + ", due is " + want);
-        }
-    }
-
-    private static void same(String call, List<Integer> got, List<Integer> want) {
-        asked++;
-        if (!got.equals(want)) {
-            wrong++;
-            System.out.println(promise + ": after " + call + "\n  there is " + got + "\n  due is   " + want);
-        }
-    }
-
-    /** Everything that the calls show but for the text and how many states the history has. */
+    /** Everything that the calls show but for pages, the text and how many states the history has. */
     private static List<Integer> all(VerseColumns x) {
-        List<Integer> all = new ArrayList<>();
-        for (int what = 0; what < 11; what++) {
-            all.add(x.count(what));
-        }
-        for (int book = 0; book < 2; book++) {
-            for (int chapter = 1; chapter <= x.count(book); chapter++) {
-                for (int what = 0; what < 3; what++) {
-                    all.add(x.chapter(book, chapter, what));
-                }
-            }
-            for (int verse = 0; verse < x.count(2 + book); verse++) {
-                for (int what = 0; what < 5; what++) {
-                    all.add(x.verse(book, verse, what));
-                }
-            }
-        }
-        for (int group = 0; group < x.count(4); group++) {
-            for (int what = 0; what < 9; what++) {
-                all.add(x.group(group, what));
-            }
-        }
+        List<Integer> all = countsAndChapters(x);
+        all.remove(11);
+        all.addAll(verses(x, 0));
+        all.addAll(verses(x, 1));
+        all.addAll(groups(x, 0, x.count(4)));
         return all;
     }
 
-    /** The map as pairs of sizes, such as "1+1 2+0". */
-    private static String map(VerseColumns x) {
-        StringBuilder map = new StringBuilder();
-        for (int group = 0; group < x.count(4); group++) {
-            map.append(group == 0 ? "" : " ").append(x.group(group, 2)).append('+').append(x.group(group, 4));
-        }
-        return map.toString();
-    }
-
-    private static void dueMap(VerseColumns x, String want) {
-        asked++;
-        String got = map(x);
-        if (!got.equals(want)) {
-            wrong++;
-            System.out.println(promise + ": the map is " + got + ", due is " + want);
-        }
-    }
-
-    private static void put(VerseColumns x, String text) {
-        x.clearText();
-        for (char sign : text.toCharArray()) {
-            x.type(sign);
-        }
-    }
-
-    private static void dueMapFault(VerseColumns x, String text, int fault) {
-        put(x, text);
-        due("readMap of \"" + text + "\"", x.readMap(), -100 - fault);
-    }
-
-    private static void dueMapRead(VerseColumns x, String text, String want) {
-        put(x, text);
-        int groups = want.split(" ").length;
-        due("readMap of \"" + text + "\"", x.readMap(), groups);
-        dueMap(x, want);
-    }
-
-    private static void dueReference(VerseColumns x, int book, String text, int first, int last) {
-        put(x, text);
-        due("refer(" + book + ", 0) of \"" + text + "\"", x.refer(book, 0), first);
-        due("refer(" + book + ", 1) of \"" + text + "\"", x.refer(book, 1), last);
-    }
-
-    private static void dueReferenceFault(VerseColumns x, int book, String text, int fault) {
-        put(x, text);
-        for (int what = 0; what < 7; what++) {
-            due("refer(" + book + ", " + what + ") of \"" + text + "\"", x.refer(book, what), -100 - fault);
-        }
-    }
-
-    private static VerseColumns books(int left, int right) {
-        VerseColumns x = new VerseColumns();
-        if (left > 0) {
-            x.addChapter(0, left, 100);
-        }
-        if (right > 0) {
-            x.addChapter(1, right, 100);
-        }
-        return x;
-    }
-
     private static void constants() {
-        promise = "constants";
-        due("UNKNOWN", UNKNOWN, -1);
-        due("BAD_VALUE", BAD_VALUE, -2);
-        due("FULL", FULL, -3);
-        due("NOT_POSSIBLE", NOT_POSSIBLE, -4);
-        due("NONE", NONE, -5);
+        about = "constants";
+        due("UNKNOWN", VerseColumns.UNKNOWN, -1);
+        due("BAD_VALUE", VerseColumns.BAD_VALUE, -2);
+        due("FULL", VerseColumns.FULL, -3);
+        due("NOT_POSSIBLE", VerseColumns.NOT_POSSIBLE, -4);
+        due("NONE", VerseColumns.NONE, -5);
     }
 
     private static void newObject() {
-        promise = "1 new object";
+        about = "1 new object";
         VerseColumns x = new VerseColumns();
         for (int what = 0; what < 12; what++) {
             due("count(" + what + ")", x.count(what), 0);
@@ -195,7 +87,7 @@ public final class PromiseTest {
     }
 
     private static void addChapter() {
-        promise = "2 addChapter";
+        about = "2 addChapter";
         VerseColumns x = new VerseColumns();
         due("addChapter(2, 0, 0)", x.addChapter(2, 0, 0), UNKNOWN);
         due("addChapter(-1, 1, 1)", x.addChapter(-1, 1, 1), UNKNOWN);
@@ -234,7 +126,7 @@ public final class PromiseTest {
     }
 
     private static void setVerse() {
-        promise = "3 setVerse";
+        about = "3 setVerse";
         VerseColumns x = books(2, 3);
         due("setVerse(2, 0, 0, 0)", x.setVerse(2, 0, 0, 0), UNKNOWN);
         due("setVerse(-1, 0, 1, 0)", x.setVerse(-1, 0, 1, 0), UNKNOWN);
@@ -259,7 +151,7 @@ public final class PromiseTest {
     }
 
     private static void joinVerses() {
-        promise = "4 joinVerses";
+        about = "4 joinVerses";
         VerseColumns x = books(3, 2);
         x.addChapter(0, 2, 1500);
         due("joinVerses(2, 0)", x.joinVerses(2, 0), UNKNOWN);
@@ -293,7 +185,7 @@ public final class PromiseTest {
     }
 
     private static void joinVersesAcrossGroups() {
-        promise = "4 joinVerses across groups";
+        about = "4 joinVerses across groups";
         VerseColumns x = books(4, 3);
         dueMapRead(x, "2=,1>,2<", "1+1 1+1 0+1 1+0 1+0");
         due("joinVerses(0, 1)", x.joinVerses(0, 1), 3);
@@ -311,7 +203,7 @@ public final class PromiseTest {
     }
 
     private static void splitVerse() {
-        promise = "5 splitVerse";
+        about = "5 splitVerse";
         VerseColumns x = books(2, 1);
         x.addChapter(0, 1, 50);
         x.setVerse(0, 1, 2000, 6);
@@ -348,7 +240,7 @@ public final class PromiseTest {
     }
 
     private static void link() {
-        promise = "6 link";
+        about = "6 link";
         VerseColumns x = books(2, 2);
         due("link(-1)", x.link(-1), UNKNOWN);
         due("link(4)", x.link(4), UNKNOWN);
@@ -368,7 +260,7 @@ public final class PromiseTest {
     }
 
     private static void part() {
-        promise = "7 part";
+        about = "7 part";
         VerseColumns x = books(3, 2);
         dueMapRead(x, "1<,2+2", "1+0 2+2");
         due("part(-1, 0, 0)", x.part(-1, 0, 0), UNKNOWN);
@@ -409,7 +301,7 @@ public final class PromiseTest {
     }
 
     private static void readMap() {
-        promise = "8 readMap";
+        about = "8 readMap";
         VerseColumns x = books(4, 3);
         dueMapRead(x, "3=,1<", "1+1 1+1 1+1 1+0");
         dueMapRead(x, "4<,3>", "1+0 1+0 1+0 1+0 0+1 0+1 0+1");
@@ -435,7 +327,7 @@ public final class PromiseTest {
     }
 
     private static void readMapFaults() {
-        promise = "8 readMap faults";
+        about = "8 readMap faults";
         VerseColumns x = books(4, 3);
         dueMapFault(x, "", 0);
         dueMapFault(x, "x", 0);
@@ -480,7 +372,7 @@ public final class PromiseTest {
     }
 
     private static void readMapFaultsOfRests() {
-        promise = "8 readMap faults of what is left";
+        about = "8 readMap faults of what is left";
         VerseColumns x = books(4, 3);
         dueMapFault(x, "5<", 0);
         dueMapFault(x, "4>", 0);
@@ -528,7 +420,7 @@ public final class PromiseTest {
     }
 
     private static void pairAll() {
-        promise = "9 pairAll";
+        about = "9 pairAll";
         VerseColumns x = books(4, 2);
         due("pairAll()", x.pairAll(), 4);
         dueMap(x, "1+1 1+1 1+0 1+0");
@@ -552,7 +444,7 @@ public final class PromiseTest {
     }
 
     private static void exchange() {
-        promise = "10 exchange";
+        about = "10 exchange";
         VerseColumns x = books(5, 4);
         x.setVerse(0, 1, 77, 3);
         x.setWidth(0, 20);
@@ -581,7 +473,7 @@ public final class PromiseTest {
     }
 
     private static void undo() {
-        promise = "11 undo";
+        about = "11 undo";
         VerseColumns x = new VerseColumns();
         due("undo()", x.undo(), NONE);
         List<List<Integer>> seen = new ArrayList<>();
@@ -607,7 +499,7 @@ public final class PromiseTest {
     }
 
     private static void undoAfterEachAct() {
-        promise = "11 undo after each act";
+        about = "11 undo after each act";
         VerseColumns x = books(3, 2);
         x.addChapter(0, 1, 70);
         x.setVerse(0, 1, 80, 2);
@@ -649,7 +541,7 @@ public final class PromiseTest {
     }
 
     private static void noActs() {
-        promise = "11 calls that are no acts";
+        about = "11 calls that are no acts";
         VerseColumns x = books(2, 2);
         x.type('1');
         x.clearText();
@@ -671,7 +563,7 @@ public final class PromiseTest {
     }
 
     private static void type() {
-        promise = "12 type";
+        about = "12 type";
         VerseColumns x = new VerseColumns();
         for (int length = 1; length <= 80; length++) {
             due("type", x.type((char) (length * 811)), length);
@@ -685,7 +577,7 @@ public final class PromiseTest {
     }
 
     private static void clearText() {
-        promise = "13 clearText";
+        about = "13 clearText";
         VerseColumns x = books(1, 1);
         due("clearText()", x.clearText(), 0);
         put(x, "1:1");
@@ -698,19 +590,8 @@ public final class PromiseTest {
         due("count(11)", x.count(11), 2);
     }
 
-    /** Left: chapters of 3, 12 and 2 verses; right: of 2 and 9. */
-    private static VerseColumns library() {
-        VerseColumns x = new VerseColumns();
-        x.addChapter(0, 3, 100);
-        x.addChapter(0, 12, 100);
-        x.addChapter(0, 2, 100);
-        x.addChapter(1, 2, 100);
-        x.addChapter(1, 9, 100);
-        return x;
-    }
-
     private static void refer() {
-        promise = "14 refer";
+        about = "14 refer";
         VerseColumns x = library();
         dueReference(x, 0, "1:1", 0, 0);
         dueReference(x, 0, "1:3", 2, 2);
@@ -758,14 +639,8 @@ public final class PromiseTest {
         due("refer(0, 2)", x.refer(0, 2), -100);
     }
 
-    private static void dueProperties(VerseColumns x, int book, int... want) {
-        for (int what = 0; what < want.length; what++) {
-            due("refer(" + book + ", " + what + ")", x.refer(book, what), want[what]);
-        }
-    }
-
     private static void referNamesLastBeforeFirst() {
-        promise = "14 refer, the last before the first";
+        about = "14 refer, the last before the first";
         VerseColumns x = library();
         dueReferenceFault(x, 0, "2:3-2", 4);
         dueReferenceFault(x, 0, "2:3-2:2", 6);
@@ -776,7 +651,7 @@ public final class PromiseTest {
     }
 
     private static void referFaults() {
-        promise = "14 refer faults";
+        about = "14 refer faults";
         VerseColumns x = library();
         dueReferenceFault(x, 0, "", 0);
         dueReferenceFault(x, 0, ":", 0);
@@ -822,7 +697,7 @@ public final class PromiseTest {
     }
 
     private static void referSecondNumber() {
-        promise = "14 refer, the number behind -";
+        about = "14 refer, the number behind -";
         VerseColumns x = library();
         dueReferenceFault(x, 0, "1:2-0", 4);
         dueReferenceFault(x, 0, "1:2-x", 4);
@@ -856,7 +731,7 @@ public final class PromiseTest {
     }
 
     private static void beside() {
-        promise = "15 beside";
+        about = "15 beside";
         VerseColumns x = books(4, 4);
         dueMapRead(x, "1<,2+3,1>,1<", "1+0 2+3 0+1 1+0");
         due("beside(2, 0, 3)", x.beside(2, 0, 3), UNKNOWN);
@@ -881,7 +756,7 @@ public final class PromiseTest {
     }
 
     private static void setWidth() {
-        promise = "16 setWidth";
+        about = "16 setWidth";
         VerseColumns x = books(1, 1);
         due("setWidth(2, 0)", x.setWidth(2, 0), UNKNOWN);
         due("setWidth(-1, 40)", x.setWidth(-1, 40), UNKNOWN);
@@ -905,7 +780,7 @@ public final class PromiseTest {
     }
 
     private static void setHeights() {
-        promise = "17 setHeights";
+        about = "17 setHeights";
         VerseColumns x = books(2, 1);
         due("setHeights(4, 0)", x.setHeights(4, 0), BAD_VALUE);
         due("setHeights(201, 0)", x.setHeights(201, 0), BAD_VALUE);
@@ -925,7 +800,7 @@ public final class PromiseTest {
     }
 
     private static void page() {
-        promise = "18 page";
+        about = "18 page";
         VerseColumns x = new VerseColumns();
         due("page(-1, 9)", x.page(-1, 9), BAD_VALUE);
         due("page(MIN, 0)", x.page(MIN, 0), BAD_VALUE);
@@ -952,14 +827,8 @@ public final class PromiseTest {
         due("page(4, 0)", x.page(4, 0), NONE);
     }
 
-    private static void duePage(VerseColumns x, int page, int... want) {
-        for (int what = 0; what < want.length; what++) {
-            due("page(" + page + ", " + what + ")", x.page(page, what), want[what]);
-        }
-    }
-
     private static void pageNotes() {
-        promise = "18 page, notes";
+        about = "18 page, notes";
         VerseColumns x = books(3, 3);
         x.setHeights(12, 0);
         x.pairAll();
@@ -983,7 +852,7 @@ public final class PromiseTest {
     }
 
     private static void pageBreaks() {
-        promise = "18 page, headings and lines";
+        about = "18 page, headings and lines";
         VerseColumns x = books(2, 2);
         x.addChapter(1, 1, 41);
         x.setVerse(0, 0, 400, 0);
@@ -1021,7 +890,7 @@ public final class PromiseTest {
     }
 
     private static void chapter() {
-        promise = "19 chapter";
+        about = "19 chapter";
         VerseColumns x = library();
         due("chapter(2, 1, 3)", x.chapter(2, 1, 3), UNKNOWN);
         due("chapter(-1, 1, 0)", x.chapter(-1, 1, 0), UNKNOWN);
@@ -1048,7 +917,7 @@ public final class PromiseTest {
     }
 
     private static void verse() {
-        promise = "20 verse";
+        about = "20 verse";
         VerseColumns x = library();
         due("verse(2, 0, 5)", x.verse(2, 0, 5), UNKNOWN);
         due("verse(-1, 0, 0)", x.verse(-1, 0, 0), UNKNOWN);
@@ -1073,7 +942,7 @@ public final class PromiseTest {
     }
 
     private static void group() {
-        promise = "21 group";
+        about = "21 group";
         VerseColumns x = books(6, 6);
         dueMapRead(x, "1=,1<,1>,2+1,1+2,1=", "1+1 1+0 0+1 2+1 1+2 1+1");
         due("group(-1, 9)", x.group(-1, 9), UNKNOWN);
@@ -1096,14 +965,8 @@ public final class PromiseTest {
         dueGroup(y, 2, 2, NONE, 0, 2, 2, 6, 0, 14, 0);
     }
 
-    private static void dueGroup(VerseColumns x, int group, int... want) {
-        for (int what = 0; what < want.length; what++) {
-            due("group(" + group + ", " + what + ")", x.group(group, what), want[what]);
-        }
-    }
-
     private static void count() {
-        promise = "22 count";
+        about = "22 count";
         VerseColumns x = library();
         due("count(-1)", x.count(-1), BAD_VALUE);
         due("count(12)", x.count(12), BAD_VALUE);
@@ -1126,7 +989,7 @@ public final class PromiseTest {
     }
 
     private static void errorsChangeNothing() {
-        promise = "errors change nothing";
+        about = "errors change nothing";
         VerseColumns x = books(2, 2);
         x.setWidth(0, 50);
         x.setHeights(20, 3);
