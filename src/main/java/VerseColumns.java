@@ -719,6 +719,9 @@ public final class VerseColumns {
             if (states >= MAX_STATES) {
                 dropOldest();
             }
+            if (!isWithin(states, 0, MAX_STATES - 1)) {
+                return;
+            }
             State row = rows[states];
             if (row != null) {
                 row.copyFrom(now);
@@ -758,7 +761,7 @@ public final class VerseColumns {
         private int numberStart;
 
         boolean append(char sign) {
-            if (length >= MAX_TEXT) {
+            if (!isWithin(length, 0, MAX_TEXT - 1)) {
                 return false;
             }
             signs[length] = sign;

@@ -24,6 +24,7 @@ public final class AskEdgeTest extends Checks {
         countsOfKinds();
         countsAtTheMost();
         statesInTheHistory();
+        orderOfErrors();
         noneOnlyWithoutErrors();
         asksChangeNothing();
         lastCall();
@@ -241,6 +242,46 @@ public final class AskEdgeTest extends Checks {
         }
         x.undo();
         due("count(11) after an undo() of none", x.count(11), 0);
+    }
+
+    private static void orderOfErrors() {
+        sentence("Where several errors can apply, the order of the @return line is the order of the checks.");
+        VerseColumns x = books(60, 60);
+        due("addChapter: no book, verses, letters, full", x.addChapter(2, 61, 2001), UNKNOWN);
+        due("addChapter: verses, letters, full", x.addChapter(0, 61, 2001), BAD_VALUE);
+        due("addChapter: letters, full", x.addChapter(0, 60, 2001), BAD_VALUE);
+        due("addChapter: full", x.addChapter(0, 60, 2000), FULL);
+        due("setVerse: no verse, letters, note", x.setVerse(0, 60, 0, 11), UNKNOWN);
+        due("setVerse: letters, note", x.setVerse(0, 59, 0, 11), BAD_VALUE);
+        due("joinVerses: no verse, behind the last one", x.joinVerses(0, 60), UNKNOWN);
+        due("joinVerses: the last one", x.joinVerses(0, 59), NOT_POSSIBLE);
+        due("splitVerse: no verse, letters, no rest, full", x.splitVerse(0, 60, 2000), UNKNOWN);
+        due("splitVerse: letters, no rest, full", x.splitVerse(0, 59, 2000), BAD_VALUE);
+        due("splitVerse: no rest, full", x.splitVerse(0, 59, 1999), NOT_POSSIBLE);
+        due("splitVerse: full", x.splitVerse(0, 59, 99), FULL);
+        due("link: no group, behind the last one", x.link(120), UNKNOWN);
+        due("link: the last one", x.link(119), NOT_POSSIBLE);
+        due("part: no group, left, not so many", x.part(120, 61, 61), UNKNOWN);
+        due("part: left, not so many", x.part(119, 61, 60), BAD_VALUE);
+        due("part: not so many", x.part(119, 60, 60), NOT_POSSIBLE);
+        due("refer: no book, what, fault", x.refer(2, 7), UNKNOWN);
+        due("refer: what, fault", x.refer(1, 7), BAD_VALUE);
+        due("refer: fault", x.refer(1, 2), -100);
+        due("beside: no verse, what", x.beside(1, 60, 3), UNKNOWN);
+        due("beside: what, none", x.beside(1, 59, 3), BAD_VALUE);
+        due("beside: none", x.beside(1, 59, 2), NONE);
+        due("setWidth: no book, width", x.setWidth(2, 201), UNKNOWN);
+        due("setWidth: width", x.setWidth(1, 201), BAD_VALUE);
+        due("page: what, none", x.page(120, 5), BAD_VALUE);
+        due("page: none", x.page(120, 4), NONE);
+        due("chapter: no chapter, what", x.chapter(1, 2, 3), UNKNOWN);
+        due("chapter: what", x.chapter(1, 1, 3), BAD_VALUE);
+        due("verse: no verse, what", x.verse(1, 60, 5), UNKNOWN);
+        due("verse: what", x.verse(1, 59, 5), BAD_VALUE);
+        due("group: no group, what", x.group(120, 9), UNKNOWN);
+        due("group: what, none", x.group(119, 9), BAD_VALUE);
+        due("group: none", x.group(119, 1), NONE);
+        due("undo", x.undo(), 1);
     }
 
     private static void noneOnlyWithoutErrors() {

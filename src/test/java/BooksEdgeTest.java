@@ -14,6 +14,7 @@ public final class BooksEdgeTest extends Checks {
         versesFromZero();
         noVersesInAnEmptyBook();
         numbersFromOne();
+        verseOfTheBook();
         lettersOfAdded();
         lettersOfSet();
         notes();
@@ -28,6 +29,7 @@ public final class BooksEdgeTest extends Checks {
         joinErrors();
         joinedLetters();
         joinedNotes();
+        joinedAhead();
         joinedGroups();
         joinedInOneGroup();
         joinedToOne();
@@ -218,6 +220,21 @@ public final class BooksEdgeTest extends Checks {
         due("number of verse 3 after a split", y.verse(0, 3, 1), 1);
     }
 
+    private static void verseOfTheBook() {
+        sentence("- `verse`: a verse of it, from 0");
+        ends("setVerse", Checks::small, 0, 3, (x, v) -> x.setVerse(0, v, 9, 9), v -> new int[] {100, 90, 100, 250}[v],
+            UNKNOWN);
+        ends("setVerse", Checks::worn, 0, 1, (x, v) -> x.setVerse(1, v, 9, 9), v -> 130, UNKNOWN);
+        ends("setVerse of 60", () -> books(60, 60), 0, 59, (x, v) -> x.setVerse(1, v, 9, 9), v -> 100, UNKNOWN);
+        VerseColumns x = books(60, 0);
+        x.setVerse(0, 0, 1, 1);
+        x.setVerse(0, 59, 2, 2);
+        due("letters of the first one", x.verse(0, 0, 2), 1);
+        due("letters of the second one", x.verse(0, 1, 2), 100);
+        due("letters of the last but one", x.verse(0, 58, 2), 100);
+        due("letters of the last one", x.verse(0, 59, 2), 2);
+    }
+
     private static void lettersOfAdded() {
         sentence("the letters of each of its verses, 1 to 2000");
         ends("addChapter, letters", Checks::small, 1, 2000, (x, n) -> x.addChapter(0, 2, n), n -> 3, BAD_VALUE);
@@ -406,6 +423,32 @@ public final class BooksEdgeTest extends Checks {
             due("note of " + sum[0] + " and " + sum[1], x.verse(0, 0, 3), sum[2]);
             due("notes of the group", x.group(0, 8), sum[2]);
         }
+    }
+
+    private static void joinedAhead() {
+        sentence("A verse has a number of letters (1 to 2000) and a note of 0 to 10 lines");
+        VerseColumns x = books(4, 0);
+        x.addChapter(0, 1, 9);
+        for (int verse = 0; verse < 4; verse++) {
+            x.setVerse(0, verse, 11 + verse, 1 + verse);
+        }
+        due("joinVerses", x.joinVerses(0, 1), 4);
+        int[][] want = {{1, 11, 1}, {1, 25, 5}, {1, 14, 4}, {2, 9, 0}};
+        for (int verse = 0; verse < 4; verse++) {
+            due("chapter of verse " + verse, x.verse(0, verse, 0), want[verse][0]);
+            due("letters of verse " + verse, x.verse(0, verse, 2), want[verse][1]);
+            due("note of verse " + verse, x.verse(0, verse, 3), want[verse][2]);
+        }
+        due("a verse behind the last one", x.verse(0, 4, 3), UNKNOWN);
+        VerseColumns full = books(0, 60);
+        full.setVerse(1, 59, 7, 10);
+        full.joinVerses(1, 0);
+        due("letters of the last one of 59", full.verse(1, 58, 2), 7);
+        due("note of the last one of 59", full.verse(1, 58, 3), 10);
+        due("note of the one ahead", full.verse(1, 57, 3), 0);
+        full.joinVerses(1, 57);
+        due("letters of the last two ones", full.verse(1, 57, 2), 107);
+        due("note of the last two ones", full.verse(1, 57, 3), 10);
     }
 
     private static void dueJoined(int left, int right, String text, int book, int verse, String want) {

@@ -12,7 +12,10 @@ public final class MapEdgeTest extends Checks {
         groupsFromZero();
         sizesOfGroups();
         eachVerseOnce();
-        kinds();
+        pairs();
+        leftAlone();
+        rightAlone();
+        moreThanOne();
         linkLast();
         linkErrors();
         linkToOne();
@@ -124,22 +127,44 @@ public final class MapEdgeTest extends Checks {
         }
     }
 
-    private static void kinds() {
-        sentence("3: verses of both books, but more than one of at least one book.");
+    private static void pairs() {
+        sentence("A group is of one of these kinds: 0: one verse of each book");
         dueKind(1, 1, "1+1", 0);
         dueKind(1, 1, "1=", 0);
+        VerseColumns x = mapped(1, 1, "1=");
+        x.splitVerse(0, 0, 50);
+        due("a pair with one verse more", x.group(0, 0), 3);
+        x.joinVerses(0, 0);
+        due("a pair again", x.group(0, 0), 0);
+        x.part(0, 1, 0);
+        due("the left verse alone", x.group(0, 0), 1);
+        due("the right verse alone", x.group(1, 0), 2);
+    }
+
+    private static void leftAlone() {
+        sentence("1: verses of the left book alone");
         dueKind(1, 0, "1<", 1);
+        due("two left verses", linked(2, 0).group(0, 0), 1);
+        due("60 left verses", linked(60, 0).group(0, 0), 1);
+        due("60 left verses and a right one", linked(60, 1).group(0, 0), 3);
+    }
+
+    private static void rightAlone() {
+        sentence("2: verses of the right book alone");
         dueKind(0, 1, "1>", 2);
+        due("two right verses", linked(0, 2).group(0, 0), 2);
+        due("60 right verses", linked(0, 60).group(0, 0), 2);
+        due("60 right verses and a left one", linked(1, 60).group(0, 0), 3);
+    }
+
+    private static void moreThanOne() {
+        sentence("3: verses of both books, but more than one of at least one book.");
         dueKind(1, 2, "1+2", 3);
         dueKind(2, 1, "2+1", 3);
         dueKind(2, 2, "2+2", 3);
         dueKind(1, 60, "1+60", 3);
         dueKind(60, 1, "60+1", 3);
         dueKind(60, 60, "60+60", 3);
-        due("two left verses alone", linked(2, 0).group(0, 0), 1);
-        due("two right verses alone", linked(0, 2).group(0, 0), 2);
-        due("60 left verses alone", linked(60, 0).group(0, 0), 1);
-        due("60 right verses alone", linked(0, 60).group(0, 0), 2);
     }
 
     private static void linkLast() {

@@ -81,7 +81,7 @@ public final class ModelTest {
             addChapter(1, chapterSize + 1, 120);
             pairAll();
         }
-        while (calls < CALLS - 20 && !failed) {
+        while (calls < CALLS - 40 && !failed) {
             step(style, chapterSize);
         }
     }

@@ -29,6 +29,7 @@ public final class PagesEdgeTest extends Checks {
         mostPages();
         onePage();
         pageProperties();
+        pageZeroOrMore();
         holdsMore();
         pageErrors();
         linesOfGroups();
@@ -442,13 +443,24 @@ public final class PagesEdgeTest extends Checks {
         sentence("- `what`: 0 for its first and 1 for its last group");
         int[] want = {0, 1, 7, 4, 0};
         ends("page, what", PagesEdgeTest::paged, 0, 4, (x, what) -> x.page(0, what), what -> want[what], BAD_VALUE);
-        ends("page, page", PagesEdgeTest::paged, 0, 1, (x, page) -> page < 0 ? NONE : x.page(page, 2), page -> 7 - page,
-            NONE);
         duePage(paged(), 0, want);
         duePage(paged(), 1, 2, 2, 6, 4, 0);
         sentence("3 for the lines of its notes (with the one line more)");
         due("no notes", lines(12, 3).page(0, 3), 0);
         due("a note of 1", noted(lines(12, 3), 1).page(0, 3), 2);
+    }
+
+    private static void pageZeroOrMore() {
+        sentence("- `page`: 0 or more");
+        due("page 0", paged().page(0, 2), 7);
+        due("page 1", paged().page(1, 2), 6);
+        refused("page -1", PagesEdgeTest::paged, x -> x.page(-1, 2), BAD_VALUE);
+        refused("page 2", PagesEdgeTest::paged, x -> x.page(2, 2), NONE);
+        sentence("2 for the sum of the heights of its groups");
+        due("one group", lines(5, 1).page(0, 2), 1);
+        due("a page that is full", lines(5, 1, 4).page(0, 2), 5);
+        due("a page that is too small", lines(5, 6).page(0, 2), 6);
+        due("without the lines of notes", noted(lines(40, 1, 4), 10, 10).page(0, 2), 5);
     }
 
     private static void holdsMore() {

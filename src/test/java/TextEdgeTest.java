@@ -8,7 +8,9 @@ public final class TextEdgeTest extends Checks {
         emptyAtFirst();
         eightyCharacters();
         anyCharacter();
+        appended();
         cleared();
+        emptied();
         threeForms();
         signsAtTheirPlaces();
         oneOrTwoDigits();
@@ -32,6 +34,7 @@ public final class TextEdgeTest extends Checks {
         referErrors();
         referNone();
         verseOfTheReference();
+        otherVerses();
         groupsOfTheReference();
         groupsBetween();
         otherVersesOfThisBook();
@@ -99,6 +102,30 @@ public final class TextEdgeTest extends Checks {
             due("type('1')", x.type('1'), 2);
             due("clearText()", x.clearText(), 2);
         }
+    }
+
+    private static void appended() {
+        sentence("Appends a character to the text.");
+        VerseColumns x = tens();
+        int[] faults = {-101, -102, 1, -104, 1, -106, 1, -107};
+        String text = "2:1-2:2:";
+        for (int i = 0; i < text.length(); i++) {
+            due("type", x.type(text.charAt(i)), i + 1);
+            due("refer(0, 0) of \"" + text.substring(0, i + 1) + "\"", x.refer(0, 0), faults[i]);
+        }
+    }
+
+    private static void emptied() {
+        sentence("Empties the text.");
+        VerseColumns x = put(tens(), "2:1-2:2");
+        due("clearText()", x.clearText(), 7);
+        due("refer(0, 0) of no text", x.refer(0, 0), -100);
+        x.type('3');
+        due("refer(0, 0) of \"3\"", x.refer(0, 0), -101);
+        x.type(':');
+        x.type('3');
+        due("refer(0, 1) of \"3:3\"", x.refer(0, 1), 5);
+        due("clearText()", x.clearText(), 3);
     }
 
     private static void cleared() {
@@ -466,6 +493,21 @@ public final class TextEdgeTest extends Checks {
         dueReference(library(), 0, "1:1-3:2", 0, 16);
         dueReference(library(), 1, "1:1-2:9", 0, 10);
         dueReference(books(60, 60), 1, "1:60", 59, 59);
+    }
+
+    private static void otherVerses() {
+        sentence("2 for the first and 3 for the last verse of the other book in these groups");
+        VerseColumns x = mapped(60, 60, "1+1,58=,1+1");
+        dueProperties(put(x, "1:1"), 0, 0, 0, 0, 0);
+        dueProperties(put(x, "1:2"), 0, 1, 1, 1, 1);
+        dueProperties(put(x, "1:60"), 0, 59, 59, 59, 59);
+        dueProperties(put(x, "1:1-60"), 0, 0, 59, 0, 59);
+        dueProperties(put(x, "1:59-60"), 1, 58, 59, 58, 59);
+        VerseColumns wide = mapped(3, 60, "1<,1+60,1<");
+        dueProperties(put(wide, "1:1-2"), 0, 0, 1, 0, 59);
+        dueProperties(put(wide, "1:2-3"), 0, 1, 2, 0, 59);
+        dueProperties(put(wide, "1:1"), 0, 0, 0, NONE, NONE);
+        dueProperties(put(wide, "1:3"), 0, 2, 2, NONE, NONE);
     }
 
     private static void groupsOfTheReference() {
