@@ -417,14 +417,14 @@ public final class VerseColumns {
 
     /** Frees the cell at an index of a row of which the first cells are used. */
     private static void openCell(int[] row, int index, int used) {
-        if (index >= 0 && index <= used && used < row.length) {
+        if (isWithin(used, 0, row.length - 1) && isWithin(index, 0, used)) {
             System.arraycopy(row, index, row, index + 1, used - index);
         }
     }
 
     /** Drops some cells from an index on; those behind them move up. */
     private static void closeCells(int[] row, int index, int cells, int used) {
-        if (index >= 0 && cells >= 0 && index + cells <= used && used <= row.length) {
+        if (isWithin(used, 0, row.length) && isWithin(index, 0, used) && isWithin(cells, 0, used - index)) {
             System.arraycopy(row, index + cells, row, index, used - index - cells);
         }
     }
